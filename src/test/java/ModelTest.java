@@ -1,0 +1,137 @@
+import java.util.ArrayList;
+import java.util.Arrays;
+import java.util.List;
+
+/** Runs of calls, drawn by a fixed rule, on an object and on the Model: both must answer the same. */
+public final class ModelTest {
+    private static final int RUNS = 120;
+    private static final int CALLS_OF_RUN = 500;
+    private static final int OTHER = 100;
+
+    private long seed;
+
+    private ModelTest(long seed) {
+        this.seed = seed * 7919 + 17;
+    }
+
+    public static void main(String[] args) {
+        for (int run = 1; run <= RUNS; run++) {
+            new ModelTest(run).compare(run);
+        }
+        Check.end();
+    }
+
+    private void compare(int run) {
+        RoomHours x = new RoomHours();
+        Model model = new Model();
+        List<String> past = new ArrayList<>();
+        int size = 1 + draw(4);
+        for (int i = 0; i < CALLS_OF_RUN; i++) {
+            int call = i < 12 * size ? draw(9) : pick();
+            int[] a = arguments(call, size);
+            String name = Model.CALLS[call];
+            String got = Check.outcome(() -> answer(x, name, a));
+            String want = model.answer(name, a);
+            past.add(name + Arrays.toString(a) + " " + got);
+            if (!got.equals(want)) {
+                Check.say("run " + run + ", due is " + want + " in the last of " + past);
+                return;
+            }
+        }
+    }
+
+    static long answer(RoomHours x, String call, int[] a) {
+        switch (call) {
+            case "room": return x.room(a[0], a[1]);
+            case "wall": return x.wall(a[0], a[1], a[2]);
+            case "leads": return x.leads(a[0], a[1]);
+            case "window": return x.window(a[0], a[1], a[2], a[3]);
+            case "outside": return x.outside(a[0], a[1]);
+            case "sun": return x.sun(a[0], a[1], a[2]);
+            case "plan": return x.plan(a[0], a[1], a[2], a[3]);
+            case "most": return x.most(a[0], a[1], a[2]);
+            case "ease":
+                x.ease(a[0], a[1]);
+                return 0;
+            case "run": return x.run(a[0]);
+            case "told": return x.told(a[0], a[1]);
+            case "balance": return x.balance(a[0]);
+            case "early": return x.early(a[0], a[1], a[2]);
+            default: return x.strong(a[0], a[1]);
+        }
+    }
+
+    /** A call's number; those that the Model takes long for come seldom, looks and plans often. */
+    private int pick() {
+        int d = draw(100);
+        if (d < 2) {
+            return 13;
+        }
+        if (d < 6) {
+            return 12;
+        }
+        return d < 20 ? 9 : d < 55 ? 10 + draw(2) : d < 75 ? 6 : draw(9);
+    }
+
+    private int[] arguments(int call, int size) {
+        int[] a = new int[Model.ARGUMENTS[call]];
+        for (int i = 0; i < a.length; i++) {
+            a[i] = argument(Model.CALLS[call], i, size);
+        }
+        if (call == 6) {
+            a[3] = planned(a[2]);
+        }
+        return a;
+    }
+
+    private int argument(String call, int i, int size) {
+        switch (call + i) {
+            case "room0": return within(1, draw(3) == 0 ? 10000 : 150);
+            case "wall1": return draw(2) == 0 ? -1 : within(0, 2 * size - 1);
+            case "wall2": case "leads1": return within(0, draw(4) == 0 ? 1000 : 120);
+            case "leads0": return within(0, 5);
+            case "window1": case "sun0": return within(0, 3);
+            case "window2": return within(0, 100);
+            case "outside0": case "sun1": case "plan1": case "early1": return within(0, 23);
+            case "sun2": return within(0, 1000);
+            case "plan2": return within(0, 2);
+            case "most1": return within(0, 1);
+            case "most2": return draw(5) == 0 ? within(0, 1000000) : within(0, 9000);
+            case "run0": return draw(6) == 0 ? within(1, 400) : within(1, 9);
+            case "told1": return within(0, 5);
+            case "balance0": return within(0, 6);
+            case "strong1": return within(1, draw(2) == 0 ? 192 : 24);
+            case "room1": case "outside1": case "window3": case "early2": case "ease0": case "ease1":
+                return warmth();
+            default: return within(0, 2 * size - 1);
+        }
+    }
+
+    private int planned(int what) {
+        if (what == 0) {
+            return draw(2) == 0 ? within(0, 4) : within(0, 100);
+        }
+        return draw(4) == 0 ? RoomHours.NONE : warmth();
+    }
+
+    private int warmth() {
+        return draw(4) == 0 ? within(-5000, 5000) : within(1200, 2600);
+    }
+
+    /** Mostly between both, sometimes one of them, one beside them or far away. */
+    private int within(int least, int greatest) {
+        switch (draw(OTHER)) {
+            case 0: return least;
+            case 1: return greatest;
+            case 2: return least - 1;
+            case 3: return greatest + 1;
+            case 4: return draw(2) == 0 ? Integer.MIN_VALUE : Integer.MAX_VALUE;
+            default: return least + draw(greatest - least + 1);
+        }
+    }
+
+    private int draw(int below) {
+        seed = (seed * 6364136223846793005L + 1442695040888963407L);
+        return (int) ((seed >>> 33) % below);
+    }
+}
