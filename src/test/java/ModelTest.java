@@ -4,39 +4,79 @@ import java.util.List;
 
 /** Runs of calls, drawn by a fixed rule, on an object and on the Model: both must answer the same. */
 public final class ModelTest {
-    private static final int RUNS = 120;
-    private static final int CALLS_OF_RUN = 500;
-    private static final int OTHER = 100;
+    private static final int WILD_RUNS = 100;
+    private static final int LIVED_IN_RUNS = 60;
+    private static final int CALLS_OF_WILD = 500;
+    private static final int CALLS_OF_LIVED_IN = 120;
 
+    private final RoomHours x = new RoomHours();
+    private final Model model = new Model();
+    private final List<String> past = new ArrayList<>();
     private long seed;
+    private boolean same = true;
 
     private ModelTest(long seed) {
         this.seed = seed * 7919 + 17;
     }
 
     public static void main(String[] args) {
-        for (int run = 1; run <= RUNS; run++) {
-            new ModelTest(run).compare(run);
+        for (int run = 1; run <= WILD_RUNS; run++) {
+            new ModelTest(run).wild();
+        }
+        for (int run = 1; run <= LIVED_IN_RUNS; run++) {
+            new ModelTest(-run).livedIn();
         }
         Check.end();
     }
 
-    private void compare(int run) {
-        RoomHours x = new RoomHours();
-        Model model = new Model();
-        List<String> past = new ArrayList<>();
+    /** Calls of all kinds, right and wrong ones mixed. */
+    private void wild() {
         int size = 1 + draw(4);
-        for (int i = 0; i < CALLS_OF_RUN; i++) {
+        for (int i = 0; i < CALLS_OF_WILD && same; i++) {
             int call = i < 12 * size ? draw(9) : pick();
-            int[] a = arguments(call, size);
-            String name = Model.CALLS[call];
-            String got = Check.outcome(() -> answer(x, name, a));
-            String want = model.answer(name, a);
-            past.add(name + Arrays.toString(a) + " " + got);
-            if (!got.equals(want)) {
-                Check.say("run " + run + ", due is " + want + " in the last of " + past);
-                return;
+            compare(Model.CALLS[call], arguments(call, size));
+        }
+    }
+
+    /** Two rooms in the cold that are heated and have persons, so that trials have many answers. */
+    private void livedIn() {
+        for (int room = 0; room < 2; room++) {
+            compare("room", 50 + draw(200), 1500 + draw(600));
+            compare("wall", room, -1, 5 + draw(40));
+            compare("window", room, draw(4), draw(60), 1600 + draw(500));
+            compare("most", room, 0, draw(9000));
+            compare("most", room, 1, draw(900));
+        }
+        compare("wall", 0, 1, draw(100));
+        int low = 1600 + draw(300);
+        compare("ease", low, low + draw(300));
+        for (int hour = 0; hour < 24; hour++) {
+            compare("outside", hour, draw(2500) - 1500);
+            compare("sun", draw(4), hour, draw(1000));
+            for (int room = 0; room < 2; room++) {
+                compare("plan", room, hour, 0, draw(2) * draw(6));
+                compare("plan", room, hour, 1, draw(3) == 0 ? RoomHours.NONE : 1700 + draw(400));
+                compare("plan", room, hour, 2, draw(2) == 0 ? RoomHours.NONE : 1900 + draw(400));
             }
+        }
+        for (int i = 0; i < CALLS_OF_LIVED_IN && same; i += 4) {
+            compare("run", 1 + draw(draw(4) == 0 ? 100 : 9));
+            compare("early", draw(2), draw(24), 1600 + draw(500));
+            compare("strong", draw(2), 1 + draw(draw(2) == 0 ? 192 : 24));
+            compare("told", draw(2), draw(6));
+        }
+    }
+
+    private void compare(String call, int... a) {
+        if (!same) {
+            return;
+        }
+        String got = Check.outcome(() -> answer(x, call, a));
+        String want = model.answer(call, a);
+        past.add(call + Arrays.toString(a) + " " + got);
+        if (!got.equals(want)) {
+            same = false;
+            Check.say("due is " + want + " in the last of " + past);
         }
     }
 
@@ -120,7 +160,7 @@ public final class ModelTest {
 
     /** Mostly between both, sometimes one of them, one beside them or far away. */
     private int within(int least, int greatest) {
-        switch (draw(OTHER)) {
+        switch (draw(100)) {
             case 0: return least;
             case 1: return greatest;
             case 2: return least - 1;
@@ -131,7 +171,7 @@ public final class ModelTest {
     }
 
     private int draw(int below) {
-        seed = (seed * 6364136223846793005L + 1442695040888963407L);
+        seed = seed * 6364136223846793005L + 1442695040888963407L;
         return (int) ((seed >>> 33) % below);
     }
 }

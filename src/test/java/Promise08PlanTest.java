@@ -7,6 +7,7 @@ public final class Promise08PlanTest {
         heaterGivesWhatIsLacking();
         coolerTakesWhatIsTooMuch();
         heaterThenCooler();
+        oneIsEnough();
         byTheHour();
         Check.end();
     }
@@ -109,6 +110,27 @@ public final class Promise08PlanTest {
         x.run(1);
         Check.due("persons come before both", x.told(0, 3), 600);
         Check.due("900 there, 300 taken", x.told(0, 1), 600);
+    }
+
+    private static void oneIsEnough() {
+        RoomHours x = new RoomHours();
+        for (int room = 0; room < 2; room++) {
+            x.room(100, 0);
+            x.wall(room, RoomHours.OUTSIDE, 1);
+            x.most(room, room, 1000);
+            x.plan(room, 0, 1 + room, 0);
+        }
+        x.outside(0, -100);
+        x.run(1);
+        Check.due("1 is lacking and given", x.told(0, 3), 1);
+        Check.due("none is too much", x.told(1, 4), 0);
+        x.outside(0, 299);
+        x.run(1);
+        Check.due("none is lacking", x.told(0, 3), 1);
+        Check.due("-1 and 3 come in: 2 are taken", x.told(1, 4), 2);
+        x.outside(0, 100);
+        x.run(1);
+        Check.due("1 is too much and taken", x.told(1, 4), 3);
     }
 
     private static void byTheHour() {
