@@ -3,6 +3,7 @@ public final class Promise08PlanTest {
     public static void main(String[] args) {
         answers();
         arguments();
+        whatIsPersonsOnlyOrWarmthOnly();
         personsBringHeat();
         heaterGivesWhatIsLacking();
         coolerTakesWhatIsTooMuch();
@@ -48,6 +49,19 @@ public final class Promise08PlanTest {
         }
         Check.due("persons not changed", x.plan(0, 0, 0, 100), 0);
         Check.due("persons 100", x.plan(0, 0, 0, 0), 100);
+    }
+
+    private static void whatIsPersonsOnlyOrWarmthOnly() {
+        RoomHours x = new RoomHours();
+        x.room(1, 0);
+        for (int v : new int[] {-1, 101, -5000, 5000, RoomHours.NONE}) {
+            Check.argument("no number of persons: " + v, () -> x.plan(0, 9, 0, v));
+            x.plan(0, 9, 1, v);
+            x.plan(0, 9, 2, v);
+            Check.due("SET", x.plan(0, 9, 1, 0), v);
+            Check.due("COOL", x.plan(0, 9, 2, 0), v);
+        }
+        Check.due("persons", x.plan(0, 9, 0, 0), 0);
     }
 
     private static void personsBringHeat() {

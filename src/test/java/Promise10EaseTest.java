@@ -2,6 +2,7 @@
 public final class Promise10EaseTest {
     public static void main(String[] args) {
         arguments();
+        lowAndHighBesideEachOther();
         edges();
         onlyWithPersonsAtTheFourthStep();
         Check.end();
@@ -28,6 +29,16 @@ public final class Promise10EaseTest {
         Check.due("the widest", Check.outcome(() -> ease(x, -5000, 5000)), "0");
         Check.due("both least", Check.outcome(() -> ease(x, -5000, -5000)), "0");
         Check.due("both greatest", Check.outcome(() -> ease(x, 5000, 5000)), "0");
+    }
+
+    private static void lowAndHighBesideEachOther() {
+        RoomHours x = new RoomHours();
+        for (int warmth : new int[] {-4999, -1, 0, 1, 5000}) {
+            Check.argument("LOW 1 above HIGH", () -> ease(x, warmth, warmth - 1));
+            Check.due("LOW as HIGH", Check.outcome(() -> ease(x, warmth, warmth)), "0");
+            Check.due("LOW 1 below HIGH", Check.outcome(() -> ease(x, warmth - 1, warmth)), "0");
+        }
+        Check.argument("LOW far above HIGH", () -> ease(x, 5000, -5000));
     }
 
     private static void edges() {

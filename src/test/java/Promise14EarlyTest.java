@@ -6,6 +6,9 @@ public final class Promise14EarlyTest {
         nextBeginning();
         hoursBeforeNowAreOver();
         anotherPlanGivesWay();
+        aGreaterPlanGivesWayToo();
+        theBeginningItself();
+        onlyTheWantedRoomIsHeated();
         allElseAsTold();
         lessMayDoWhereMoreDoesNot();
         nothingIsChanged();
@@ -78,6 +81,48 @@ public final class Promise14EarlyTest {
         Check.due("20 are there already", x.early(0, 2, 60), 1);
         Check.due("the plan holds before", x.early(0, 2, 61), 2);
         Check.due("wanted less than planned", x.early(0, 2, 10), 0);
+    }
+
+    /**
+     * Half of the warmth goes out in a step; in hour 1 the sun brings 1000, or 250 above 70. SET 80
+     * ends with 695 of it, shaded; SET 70 comes to the last step with 700, not shaded.
+     */
+    private static void aGreaterPlanGivesWayToo() {
+        RoomHours x = new RoomHours();
+        x.room(10, 50);
+        x.wall(0, RoomHours.OUTSIDE, 500);
+        x.window(0, 0, 100, 70);
+        x.sun(0, 1, 100);
+        x.most(0, 0, 80);
+        x.plan(0, 1, 1, 80);
+        Check.due("planned is more, and does not do", x.early(0, 2, 70), 1);
+        Check.due("for less it does", x.early(0, 2, 69), 0);
+    }
+
+    private static void theBeginningItself() {
+        RoomHours x = heated();
+        x.plan(0, 2, 0, 1);
+        Check.due("persons of that hour come too late", x.early(0, 2, 1), 1);
+        Check.due("those of the hour before don't", x.early(0, 3, 40), 0);
+        x.run(11);
+        Check.due("one step is left of it", x.early(0, 3, 40), 0);
+        x.run(1);
+        Check.due("it begins now, and 40 are there tomorrow too", x.early(0, 3, 40), 0);
+        Check.due("80 with the persons of tomorrow", x.early(0, 3, 80), 0);
+        Check.due("and no more", x.early(0, 3, 81), 1);
+    }
+
+    private static void onlyTheWantedRoomIsHeated() {
+        RoomHours x = heated();
+        x.room(10, 0);
+        x.most(1, 0, 1000000);
+        x.wall(0, 1, 100);
+        x.most(0, 0, 0);
+        Check.due("the other room has no SET", x.early(0, 6, 5), RoomHours.NONE);
+        x.plan(1, 5, 1, 100);
+        // It is at 100 after the first step of hour 5; 100, 90 and 81 come from there in the others.
+        Check.due("its own plan heats it", x.early(0, 6, 27), 0);
+        Check.due("no more comes from there", x.early(0, 6, 28), RoomHours.NONE);
     }
 
     private static void allElseAsTold() {

@@ -6,6 +6,9 @@ public final class Promise15StrongTest {
         onlyHoursThatEndInTheTrial();
         onlyHoursWithPersons();
         notHeated();
+        atLowItself();
+        theFirstAndTheLastStep();
+        onlyThisRoomsHeater();
         strongerMayDoWorse();
         nothingIsChanged();
         Check.end();
@@ -81,6 +84,56 @@ public final class Promise15StrongTest {
         Check.due("it is over", x.strong(0, 95), 0);
         Check.due("a day later", x.strong(0, 96), 1000);
         Check.due("in two days", x.strong(0, 192), 1000);
+    }
+
+    /** Four persons bring 1600 in the hour to STORE 100; 4 * 1000 more with the weakest heater. */
+    private static void atLowItself() {
+        int[][] due = {{15, 0}, {16, 0}, {17, 1000}, {55, 1000}, {56, 1000}, {57, 2000}};
+        for (int[] d : due) {
+            RoomHours x = new RoomHours();
+            x.room(100, 0);
+            x.plan(0, 0, 0, 4);
+            x.plan(0, 0, 1, 5000);
+            x.ease(d[0], 5000);
+            Check.due("LOW " + d[0], x.strong(0, 4), d[1]);
+        }
+    }
+
+    /**
+     * A room that gets colder, by some 20400 in hour 0 and 8900 in the other hours: at LOW at the end
+     * of its first day, and some 28000 below it at that of the second, for which 8 steps are heated.
+     */
+    private static void theFirstAndTheLastStep() {
+        RoomHours x = new RoomHours();
+        x.room(10000, 100);
+        x.wall(0, RoomHours.OUTSIDE, 100);
+        x.outside(0, -5000);
+        x.plan(0, 23, 0, 1);
+        x.plan(0, 23, 1, 100);
+        x.ease(97, 5000);
+        Check.due("95 steps", x.strong(0, 95), 0);
+        Check.due("96 steps", x.strong(0, 96), 0);
+        Check.due("191 steps", x.strong(0, 191), 0);
+        Check.due("192 steps", x.strong(0, 192), 4000);
+        x.ease(5000, 5000);
+        Check.due("1 step, no end of an hour with persons", x.strong(0, 1), 0);
+        x.run(95);
+        Check.due("1 step, the end of one", x.strong(0, 1), RoomHours.NONE);
+        x.run(1);
+        Check.due("1 step of the next day", x.strong(0, 1), 0);
+    }
+
+    private static void onlyThisRoomsHeater() {
+        RoomHours x = new RoomHours();
+        x.room(100, 0);
+        x.room(100, 0);
+        x.wall(0, 1, 1000);
+        x.plan(0, 1, 0, 1);
+        x.plan(1, 0, 1, 500);
+        x.ease(5, 5000);
+        Check.due("the other has a SET, and no MOST", x.strong(0, 8), RoomHours.NONE);
+        x.most(1, 0, 10000);
+        Check.due("it heats by its own", x.strong(0, 8), 0);
     }
 
     private static void onlyHoursWithPersons() {
