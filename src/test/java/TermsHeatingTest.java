@@ -18,7 +18,7 @@ public final class TermsHeatingTest {
         Check.end();
     }
 
-    /** A room of warmth 0 that persons or a cold wall have brought to a heat near STORE times warmth. */
+    /** A room of heat 0, to which a wall brings so much in the first step, ahead of heater and cooler. */
     private static RoomHours near(int heat) {
         RoomHours x = Houses.withRoom(STORE, 0);
         x.wall(0, RoomHours.OUTSIDE, 1);
